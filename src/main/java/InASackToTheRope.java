@@ -505,7 +505,7 @@ public final class InASackToTheRope {
     // ---- moves, the image, the status ----
 
     public int act(int child, int move, int x) {
-        moves.ran = 0;
+        moves.forget();
         if (!now.hasChild(child) || move < 0 || move >= Moves.MOVES) {
             return 0;
         }
@@ -1364,11 +1364,14 @@ public final class InASackToTheRope {
         private int k;
 
         int run(Child child, int number, int move, int x) {
-            ran = 0;
             kind = child.kind;
             m = number;
             k = child.a;
             return runFrom(this, move, kind, x, 0);
+        }
+
+        void forget() {
+            ran = 0;
         }
 
         int noted(int i) {

@@ -963,7 +963,7 @@ public final class InASackToTheRope {
         }
 
         int asInt(int i) {
-            return (int) at(i);
+            return has(i) ? (int) elements[i] : 0;
         }
     }
 

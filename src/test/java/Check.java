@@ -47,7 +47,8 @@ final class Check {
 
     /**
      * The call answers the number, counts one refusal of it more, and changes nothing else: of two
-     * objects made alike one is called so. (Each object is used for far fewer than 512 calls.)
+     * objects made alike one is called so. Each object is used for far fewer than 512 calls, so what
+     * the rows hold and what the image holds is looked at in further ones.
      */
     static void refused(Supplier<InASackToTheRope> make, String call,
             ToIntFunction<InASackToTheRope> run, int number) {
@@ -60,6 +61,35 @@ final class Check {
                     left.status(10 + i) + (i == which ? 1 : 0));
         }
         holds("nothing changes by " + call, state(left).equals(state(called)));
+        for (int s = 0; s < 8; s++) {
+            InASackToTheRope other = make.get();
+            run.applyAsInt(other);
+            holds("SHELF " + s + " stays by " + call, rowOf(make.get(), s).equals(rowOf(other, s)));
+        }
+        InASackToTheRope back = make.get();
+        InASackToTheRope calledBack = make.get();
+        run.applyAsInt(calledBack);
+        due("restore behind " + call, calledBack.restore(), back.restore());
+        holds("the image stays by " + call, state(back).equals(state(calledBack)));
+    }
+
+    /** All elements of the SHELF's ROW, and how many there are (which set() tells, so it comes last). */
+    private static String rowOf(InASackToTheRope x, int s) {
+        StringBuilder seen = new StringBuilder();
+        for (int i = 0; i <= 160; i++) {
+            seen.append(x.element(s, i)).append(' ');
+        }
+        int size = 0;
+        int beyond = 161;
+        while (size < beyond) {
+            int mid = (size + beyond) / 2;
+            if (x.set(s, mid, 0) == 1) {
+                size = mid + 1;
+            } else {
+                beyond = mid;
+            }
+        }
+        return seen.append(size).toString();
     }
 
     /** The call answers so and counts no refusal. */
@@ -80,7 +110,7 @@ final class Check {
         return counts;
     }
 
-    /** What can be seen without a refusal (of rows and the trace the first four), but for the refusals. */
+    /** What can be seen without a refusal (of rows the first four elements), but for the refusals. */
     static String state(InASackToTheRope x) {
         StringBuilder seen = new StringBuilder();
         for (int what = 0; what <= 9; what++) {
@@ -101,7 +131,7 @@ final class Check {
             }
         }
         seen.append(x.fault());
-        for (int i = 0; i < 4; i++) {
+        for (int i = 0; i < 20; i++) {
             seen.append(' ').append(x.trace(i));
         }
         return seen.toString();

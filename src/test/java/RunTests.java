@@ -14,6 +14,13 @@ public final class RunTests {
         TextOracleTest.all();
         AnyCallsTest.all();
         FaceTest.all();
+        EdgesOfFieldTest.all();
+        EdgesOfTextTest.all();
+        EdgesOfRaceTest.all();
+        EdgesOfToldTest.all();
+        EdgesOfTruthTest.all();
+        EdgesOfPromisesTest.all();
+        RefusalsTest.all();
         System.out.println(Check.passed + " tests of the project hold, " + Check.failed + " don't");
         if (Check.failed != 0) {
             System.exit(1);

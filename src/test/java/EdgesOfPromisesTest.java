@@ -216,7 +216,12 @@ final class EdgesOfPromisesTest {
         }
         Check.free(x, "the last there is", () -> x.element(0, 2), 3);
         x.show(0, 0);
-        Check.free(x, "where a ROW was", () -> x.element(0, 2), 0);
+        x.show(1, -1);
+        for (int i = 0; i < 3; i++) {
+            int last = i;
+            Check.free(x, "where a ROW was, and a child is", () -> x.element(0, last), 0);
+            Check.free(x, "where a ROW was, and NOTHING is", () -> x.element(1, last), 0);
+        }
     }
 
     private static void show() {
@@ -358,7 +363,8 @@ final class EdgesOfPromisesTest {
     }
 
     private static void noAct() {
-        int[][] none = {{3, 0}, {-1, 0}, {Edges.MIN, 0}, {Edges.MAX, 0}, {0, 3}, {0, -1}, {0, Edges.MIN}, {0, Edges.MAX}};
+        int[][] none = {{3, 0}, {-1, 0}, {Edges.MIN, 0}, {Edges.MAX, 0}, {0, 3}, {0, -1},
+            {0, Edges.MIN}, {0, Edges.MAX}};
         for (int[] n : none) {
             InASackToTheRope x = Edges.lived();
             Check.holds("a TRACE before", x.trace(0) >= 0 && x.status(9) > 0);

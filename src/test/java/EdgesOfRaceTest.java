@@ -12,7 +12,8 @@ final class EdgesOfRaceTest {
     static void all() {
         Check.test("terms 2: SLACK is LENGTH less LEGS, whatever the sign", EdgesOfRaceTest::slack);
         Check.test("terms 2: without SACKS there are SLACK 0 and no HOLES", EdgesOfRaceTest::withoutSacks);
-        Check.test("terms 2: STRIDE of EVEN is 1 less than LEGS, 1 at least", () -> strides(1, 0, 1, 1, 2, 1, 3, 2, 9, 8));
+        Check.test("terms 2: STRIDE of EVEN is 1 less than LEGS, 1 at least",
+                () -> strides(1, 0, 1, 1, 2, 1, 3, 2, 9, 8));
         Check.test("terms 2: STRIDE of CALM is half of LEGS, rounded up",
                 () -> strides(3, 0, 1, 1, 2, 1, 3, 2, 4, 2, 8, 4, 9, 5));
         Check.test("terms 2: STRIDE of HOPPER is LEGS, of LONG LEGS and 2", EdgesOfRaceTest::plainStrides);
@@ -22,7 +23,8 @@ final class EdgesOfRaceTest {
         Check.test("terms 2: RISK of RUNNING and TIPTOE is half of that, cut", EdgesOfRaceTest::halfRisk);
         Check.test("terms 2: 20 more of RISK, if BREATH is less than PUFF", EdgesOfRaceTest::outOfBreath);
         Check.test("terms 2: the 20 more are not halved", EdgesOfRaceTest::twentyWhole);
-        Check.test("terms 2: at first one is AT his AHEAD, BREATH is WIND, WOBBLE 0, not DOWN", EdgesOfRaceTest::atFirst);
+        Check.test("terms 2: at first one is AT his AHEAD, BREATH is WIND, WOBBLE 0, not DOWN",
+                EdgesOfRaceTest::atFirst);
         Check.test("terms 2: a SECOND goes as long as AT is below WAY", EdgesOfRaceTest::belowWay);
         Check.test("terms 2: DOWN is UP, and 1 less each SECOND", EdgesOfRaceTest::down);
         Check.test("terms 2: RISK counts as it is then, ahead of the hop", EdgesOfRaceTest::riskThen);

@@ -206,6 +206,10 @@ final class EdgesOfToldTest {
         Check.due("law 2, the first one's", x.given(2, 2, 0), 2);
         Check.due("law 2, the second one's", x.given(2, 2, 1), 0);
         Check.due("law 2 of one", x.given(2, 1, -1), 0);
+        InASackToTheRope there = plain("child 0 0 5;child 0 0 3;ahead 0 12;ahead 1 12;sack 5 0;sack 3 0");
+        for (int law = 0; law <= 2; law++) {
+            Check.due("who are at the WAY, by law " + law, there.given(law, 2, -1), 0);
+        }
         Edges.left(Edges::lived, "law", 0, 2, (y, v) -> y.given(v, 2, 0), -6);
     }
 
@@ -343,7 +347,8 @@ final class EdgesOfToldTest {
 
     private static void heats() {
         // children, and how many heats by 2, 3, 4
-        int[][] heats = {{2, 1, 1, 1}, {3, 3, 1, 1}, {4, 3, 3, 1}, {5, 6, 3, 3}, {6, 6, 3, 3}, {7, 7, 4, 3}, {8, 7, 4, 3}};
+        int[][] heats = {{2, 1, 1, 1}, {3, 3, 1, 1}, {4, 3, 3, 1}, {5, 6, 3, 3}, {6, 6, 3, 3},
+            {7, 7, 4, 3}, {8, 7, 4, 3}};
         for (int[] h : heats) {
             InASackToTheRope x = new InASackToTheRope();
             for (int c = 0; c < h[0]; c++) {
@@ -374,6 +379,13 @@ final class EdgesOfToldTest {
         Check.due("1 and 2 at once by three", x.heats(3, 0), 1);
         InASackToTheRope alone = plain("child 0 0 1;child 0 0 1;child 0 0 6");
         Check.due("alone in the last heat", alone.heats(2, 0), 2);
+        // who was left before begins anew
+        alone.ahead(0, 12);
+        Check.due("the first, being at the WAY", alone.heats(2, 0), 0);
+        alone.ahead(0, 0);
+        alone.ahead(1, 12);
+        Check.due("the second then", alone.heats(2, 0), 1);
+        Check.due("by three heats", alone.heats(2, 1), 3);
     }
 
     private static void legs() {

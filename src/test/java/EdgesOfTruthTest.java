@@ -18,6 +18,7 @@ final class EdgesOfTruthTest {
         Check.test("terms 3: child by child who isn't IN", EdgesOfTruthTest::whoIsNotIn);
         Check.test("terms 3: who is IN first, of several the first", EdgesOfTruthTest::ofSeveral);
         Check.test("terms 3: ROPE counts there, too", EdgesOfTruthTest::rope);
+        Check.test("terms 3: a RACE of one to eight children", EdgesOfTruthTest::fields);
         Check.test("terms 3: WON of him is 1 more", EdgesOfTruthTest::won);
         Check.test("terms 3: nobody within 999 SECONDS: NONE", EdgesOfTruthTest::nobody);
         Check.test("terms 3: 998 SECONDS are enough, 999 are never", EdgesOfTruthTest::lastSeconds);
@@ -231,6 +232,29 @@ final class EdgesOfTruthTest {
         Check.due("0 and 1", other.race(), 1);
     }
 
+    private static void fields() {
+        for (int children = 1; children <= 8; children++) {
+            InASackToTheRope x = new InASackToTheRope();
+            x.ask(0, 1);
+            for (int c = 0; c < children; c++) {
+                x.child(6, 0, 1);
+            }
+            Check.due("the first of " + children, x.race(), 0);
+            Check.due("a DRAW for each", x.status(8), after(1, children));
+            x.ahead(children - 1, 1);
+            Check.due("the last of " + children, x.race(), children - 1);
+            Check.due("a DRAW for each other", x.status(8), after(1, 2 * children - 1));
+        }
+        // who was there before the image came back hops no more
+        InASackToTheRope x = Check.told("child 6 0 1;way 9;rope 0");
+        x.image();
+        x.child(6, 0, 1);
+        x.race();
+        x.restore();
+        Check.due("alone again", x.race(), 0);
+        Check.due("nine DRAWS", x.status(8), after(1, 9));
+    }
+
     private static void won() {
         InASackToTheRope x = Check.told("child 6 0 1;child 6 0 2;child 6 0 1;way 2;rope 0");
         int seed = 1;
@@ -287,9 +311,12 @@ final class EdgesOfTruthTest {
         for (int[] s : secondsRopeWho) {
             int way = 200 - s[0] % 2;
             InASackToTheRope x = Check.told("sack 9 9;child 0 0 1;up 1;wind 60;way " + way + ";rope " + s[1]);
-            x.seed(seedFor(way, s[0]));
+            int seed = seedFor(way, s[0]);
+            x.seed(seed);
             Check.due("in " + s[0] + " SECONDS with ROPE " + s[1], x.race(), s[2]);
             Check.due("WON", x.childOf(0, 8), s[2] + 1);
+            // a DRAW for each foot and each fall, but none in the thousandth SECOND
+            Check.due("SEED", x.status(8), after(seed, (way + s[0]) / 2 - s[0] / 1000));
         }
     }
 

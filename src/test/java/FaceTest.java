@@ -34,6 +34,9 @@ final class FaceTest {
         Check.test("no other member is seen", FaceTest::noOther);
         Check.test("sizes of classes and methods", FaceTest::sizes);
         Check.test("words that the language leaves out", FaceTest::words);
+        Check.test("nothing of the library but what the language has", FaceTest::library);
+        Check.test("objects are made with an object alone, by no call", FaceTest::objects);
+        Check.test("loops have an end in their own lines", FaceTest::loops);
     }
 
     private static String told(Method method) {
@@ -121,14 +124,70 @@ final class FaceTest {
         }
     }
 
+    /** The source without comments, and without what stands in texts and signs. */
+    private static String code() {
+        return source().replaceAll("(?s)/\\*.*?\\*/", " ").replaceAll("//[^\n]*", " ")
+                .replaceAll("\"[^\"\n]*\"", "\"\"").replaceAll("'[^'\n]'", "' '");
+    }
+
+    private static void library() {
+        Set<String> own = new TreeSet<>();
+        Set<String> types = new TreeSet<>(Arrays.asList("String", "Math", "System", "Arrays", "InASackToTheRope"));
+        for (Method method : InASackToTheRope.class.getDeclaredMethods()) {
+            own.add(method.getName());
+        }
+        for (Class<?> inside : InASackToTheRope.class.getDeclaredClasses()) {
+            types.add(inside.getSimpleName());
+            for (Method method : inside.getDeclaredMethods()) {
+                own.add(method.getName());
+            }
+        }
+        Set<String> library = Set.of("Math.abs", "Math.max", "Math.min", "System.arraycopy", "Arrays.fill",
+                "length", "charAt");
+        String code = code();
+        Check.holds("there is code", code.length() > 1000);
+        Matcher called = Pattern.compile("(?:\\b(Math|System|Arrays)|\\S)\\.(\\w+)\\(").matcher(code);
+        while (called.find()) {
+            String name = called.group(1) == null ? called.group(2) : called.group(1) + "." + called.group(2);
+            Check.holds(name + " is the class's own, or of the library",
+                    library.contains(name) || called.group(1) == null && own.contains(name));
+        }
+        Matcher type = Pattern.compile("\\b[A-Z]\\w*[a-z]\\w*\\b").matcher(code);
+        while (type.find()) {
+            Check.holds("the type " + type.group(), types.contains(type.group()) || type.group().equals("Integer"));
+        }
+    }
+
+    /** Each "new" stands where a field begins, or in a constructor. */
+    private static void objects() {
+        String maker = "";
+        for (String line : code().split("\n")) {
+            if (line.matches(" {4}( {4})?\\S.*\\) \\{") && !line.matches(" +(for|if|while|switch)\\b.*")) {
+                maker = line.trim();
+            }
+            if (line.matches(".*\\bnew\\b.*") && !line.matches(" +(private )?final [^(]* = new .*;")) {
+                Check.holds("a constructor makes it: " + maker + line, maker.matches("(public )?[A-Z]\\w*\\(\\) \\{"));
+            }
+        }
+    }
+
+    private static void loops() {
+        Matcher loop = Pattern.compile("\\b(for|while) \\(([^\n]*)\\) \\{|\\bdo\\b").matcher(code());
+        int loops = 0;
+        while (loop.find()) {
+            loops++;
+            Check.holds("a bound in " + loop.group(), loop.group(2) != null && loop.group(2).matches(".*[<>].*"));
+        }
+        Check.holds("there are loops", loops > 10);
+    }
+
     private static void words() {
         String source = source();
         Check.holds("there is a source", source.contains("class InASackToTheRope"));
         for (int i = 0; i < source.length(); i++) {
             Check.holds("a plain sign at " + i, source.charAt(i) < 127);
         }
-        String code = source.replaceAll("(?s)/\\*.*?\\*/", " ").replaceAll("//[^\n]*", " ")
-                .replaceAll("\"[^\"\n]*\"", "\"\"").replaceAll("'[^'\n]'", "' '");
+        String code = code();
         Matcher left = Pattern.compile("\\b(throw|throws|try|catch|synchronized|assert|package|float|double|Object"
                 + "|hashCode|toString|equals|yield|record|sealed|volatile|native|var|[A-Za-z]+Exact)\\b|->|::|\"\"\\s*\\+|\\+\\s*\"\"").matcher(code);
         while (left.find()) {

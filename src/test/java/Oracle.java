@@ -43,6 +43,35 @@ final class Oracle {
         seed = x.status(8);
     }
 
+    /** As a model has it. */
+    Oracle(Model.State state) {
+        int children = state.kids.size();
+        kinds = new int[children];
+        as = new int[children];
+        legs = new int[children];
+        sacks = new int[children];
+        aheads = new int[children];
+        for (int c = 0; c < children; c++) {
+            kinds[c] = state.kids.get(c).kind;
+            as[c] = state.kids.get(c).a;
+            legs[c] = state.kids.get(c).legs;
+            sacks[c] = state.kids.get(c).sack;
+            aheads[c] = state.kids.get(c).ahead;
+        }
+        lengths = new int[state.sacks.size()];
+        holes = new int[lengths.length];
+        for (int s = 0; s < lengths.length; s++) {
+            lengths[s] = state.sacks.get(s)[0];
+            holes[s] = state.sacks.get(s)[1];
+        }
+        way = state.terms[0];
+        up = state.terms[1];
+        rope = state.terms[2];
+        wind = state.terms[3];
+        rolls = state.rolls;
+        seed = state.seed;
+    }
+
     int children() {
         return kinds.length;
     }
@@ -210,6 +239,15 @@ final class Oracle {
             }
         }
         return -1;
+    }
+
+    /** The child who is IN first, of several the first. */
+    int winner() {
+        int first = children() - 1;
+        for (int c = first; c >= 0; c--) {
+            first = in(c) <= in(first) ? c : first;
+        }
+        return first;
     }
 
     int winnerOf(int... among) {

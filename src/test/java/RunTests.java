@@ -12,6 +12,7 @@ public final class RunTests {
         ImageTest.all();
         OracleTest.all();
         TextOracleTest.all();
+        ModelTest.all();
         AnyCallsTest.all();
         FaceTest.all();
         EdgesOfFieldTest.all();

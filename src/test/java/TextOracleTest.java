@@ -51,7 +51,7 @@ final class TextOracleTest {
     }
 
     /** A text as the grammar has it, in half of all cases with a sign less, more, or another one. */
-    private static String any(Random random) {
+    static String any(Random random) {
         StringBuilder text = new StringBuilder();
         int items = 1 + random.nextInt(5);
         for (int i = 0; i < items; i++) {
@@ -87,6 +87,11 @@ final class TextOracleTest {
             text.append(' ').append("0".repeat(random.nextInt(8) == 0 ? 1 : 0));
             text.append(b == 10 && random.nextBoolean() ? 1 + random.nextInt(9) : random.nextInt(b));
         }
+    }
+
+    /** The FAULT of the text over so many children and SACKS, or -1. */
+    static int faultOf(String text, int children, int sacks) {
+        return new TextOracleTest(text, children, sacks).fault();
     }
 
     private int fault() {

@@ -57,8 +57,8 @@ final class TextOracleTest {
         for (int i = 0; i < items; i++) {
             text.append(i == 0 ? "" : ";");
             switch (random.nextInt(8)) {
-                case 0: add(text, "child", random, 7, 10, 10); break;
-                case 1: add(text, "sack", random, 10, 10); break;
+                case 0: add(text, "child", random, random.nextInt(9) == 0 ? 9 : 7, 10, 10); break;
+                case 1: add(text, "sack", random, 10, random.nextInt(9) == 0 ? 12 : 10); break;
                 case 2: add(text, "wears", random, 3, 3); break;
                 case 3: add(text, "ahead", random, 3, 101); break;
                 case 4: add(text, "way", random, 202); break;
